@@ -166,6 +166,7 @@ public final class SheetsTest {
         Due.is("the second isn't", with(2, 8, 1, 2).judge(0), 1);
         Due.is("one lacks", with(2, 8, 1).judge(0), 1);
         Due.is("one is too many", with(2, 8, 1, 1, 1).judge(0), 2);
+        Due.is("a 0 is too many", with(2, 8, 1, 1, 0, 0).judge(0), 2);
         Due.is("one isn't, ahead of one too many", with(2, 8, 1, 0, 1).judge(0), 1);
         Due.is("nothing at all", with(0, 8).judge(0), -1);
         ScrewLeft x = with(1, 32, 4);

@@ -60,6 +60,14 @@ public final class TextsTest {
         Due.is("bytes of the longest", longest.length(), 50);
         Due.is("the longest", Due.text(x, 0, longest), 1);
         Due.is("law by the longest", x.law(0, 0, 0, 0), 3 + 1 + 14 + 12);
+        String fullest = "!0+1+1+1+1+1+1+1+1+1+1+1+1+1+1+1+1+1+1+1+1+1+1+1+1";
+        Due.is("bytes of the fullest", fullest.length(), 50);
+        Due.is("the fullest", Due.text(x, 0, fullest), 1);
+        Due.is("law by the fullest", x.law(0, 0, 0, 0), 25);
+        Due.text(x, 0, "!s");
+        Due.is("law by !s", x.law(0, 7, 0, 0), 1);
+        Due.text(x, 1, "!m");
+        Due.is("law by !m", x.law(1, 0, 0, 0), 1);
     }
 
     private static void fault(String text, int use, int place) {

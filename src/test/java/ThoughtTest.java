@@ -60,6 +60,12 @@ public final class ThoughtTest {
         Due.is("those that are WRONG already, too", x.all(2), 3);
         x.set(1, 8);
         Due.is("THE BAG lacks for one", x.all(1), 3);
+        ScrewLeft y = new ScrewLeft();
+        for (int i = 0; i < 8; i++) {
+            y.step(0, 0, (1 << i) - 1);
+        }
+        Due.is("eight STEPS", y.all(0), 8);
+        Due.is("all of eight STEPS", y.all(1), 0);
         Due.is("all(-1)", x.all(-1), Due.BEYOND);
         Due.is("all(3)", x.all(3), Due.BEYOND);
     }
@@ -187,6 +193,12 @@ public final class ThoughtTest {
         Due.is("MINUTES while one tires", x.goBack(3, 0), 1 + 4 + 6 + 3);
         x.set(1, 0);
         Due.is("SCREWS don't matter", x.goBack(3, 0), 14);
+        ScrewLeft y = new ScrewLeft();
+        y.step(0, 1, 0);
+        y.step(30, 1, 1);
+        y.does(0);
+        y.does(1);
+        Due.is("MINUTES with the greatest number", y.goBack(0, 0), 4 + 1 + 2 + 4);
         x.become(2, 50);
         Due.is("BLOCKED by what is sealed", x.goBack(1, 1), 1);
         x.become(2, 0);
@@ -234,6 +246,9 @@ public final class ThoughtTest {
         Due.is("whose(0, 0)", x.whose(0, 0), 2);
         Due.is("whose(0, 1)", x.whose(0, 1), 0);
         Due.is("whose(10, 1)", x.whose(10, 1), 13);
+        x.does(4);
+        Due.is("all of them, and without the one that has none", x.whose(13, 0), 2);
+        Due.is("the least of these", x.whose(13, 1), 29);
         Due.is("whose(99, 0)", x.whose(99, 0), 0);
         Due.is("whose(99, 1)", x.whose(99, 1), Due.NONE);
         Due.is("whose(-1, 0)", x.whose(-1, 0), Due.BEYOND);
@@ -262,6 +277,8 @@ public final class ThoughtTest {
         x.change(1, 2, 1);
         Due.is("of several the least", x.lookAt(), 1);
         Due.is("told(2)", x.told(2), 3);
+        x.change(0, 0, 1);
+        Due.is("fewest MINUTES, by the first", x.lookAt(), 0);
     }
 
     private static ScrewLeft told(int... minutes) {
