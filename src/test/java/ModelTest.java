@@ -46,7 +46,13 @@ public final class ModelTest {
             if (act.getName().equals("text") && random.nextInt(3) > 0) {
                 feedText();
             }
-            call(act.getName(), drawn(act));
+            if (act.getName().equals("orders") && random.nextInt(3) > 0) {
+                sheetOfAnOrder();
+            } else if (act.getName().equals("judge") && random.nextInt(3) > 0) {
+                sheetOfWhatLasts();
+            } else {
+                call(act.getName(), drawn(act));
+            }
         }
         Due.holds("run " + seed + (good ? "" : ":" + run), good);
     }
@@ -145,6 +151,35 @@ public final class ModelTest {
             case 2: return v - 256;
             default: return v;
         }
+    }
+
+    /** A SHEET that some order explains, where as many STEPS are open, is asked for both. */
+    private void sheetOfAnOrder() throws Exception {
+        Model.World thought = model.now.copy();
+        int sheet = random.nextInt(4);
+        int n = 1 + random.nextInt(4);
+        call("sheet", sheet, 8 << random.nextInt(3), n);
+        for (int i = 0; i < n && thought.least() >= 0; i++) {
+            int step = thought.least();
+            for (int tries = 0; tries < 6; tries++) {
+                int other = random.nextInt(thought.parts.size());
+                step = thought.may(other) ? other : step;
+            }
+            call("put", sheet, i, thought.lasts(step));
+            thought.finish(step);
+        }
+        call("orders", sheet, 0);
+        call("orders", sheet, 1);
+    }
+
+    private void sheetOfWhatLasts() throws Exception {
+        int sheet = random.nextInt(4);
+        int n = model.now.parts.size() + (random.nextInt(4) == 0 ? 1 : 0);
+        call("sheet", sheet, 8 << random.nextInt(3), n);
+        for (int i = 0; i < model.now.parts.size(); i++) {
+            call("put", sheet, i, model.now.lasts(i) + (random.nextInt(15) == 0 ? 1 : 0));
+        }
+        call("judge", sheet);
     }
 
     private void feedText() throws Exception {
