@@ -4,6 +4,7 @@ public final class EdgesOfImagesTest {
     private static final int MOST = Integer.MAX_VALUE;
 
     public static void main(String[] args) {
+        atMostFiveHundredTwelveCalls();
         imageHowOften();
         imageOfNothing();
         imageOfFullThings();
@@ -27,16 +28,28 @@ public final class EdgesOfImagesTest {
         Due.end();
     }
 
+    private static void atMostFiveHundredTwelveCalls() {
+        Edge.says("An object is used for at most 512 calls after it has been made");
+        ScrewLeft images = new ScrewLeft();
+        ScrewLeft errors = new ScrewLeft();
+        for (int i = 1; i <= 511; i++) {
+            images.image();
+            errors.trace(0);
+        }
+        Edge.due(images, 512, "image");
+        Edge.due(errors, 511, "told", 2);
+    }
+
     private static void imageHowOften() {
         Edge.says("is kept as an IMAGE, in place of one ahead: how often that was done.");
         ScrewLeft x = new ScrewLeft();
-        for (int i = 1; i <= 300; i++) {
+        for (int i = 1; i <= 200; i++) {
             x.set(2, i);
             Edge.due(x, i, "image");
         }
         x.set(2, 7);
-        Edge.due(x, 300, "restore");
-        Edge.due(x, 301, "image");
+        Edge.due(x, 200, "restore");
+        Edge.due(x, 201, "image");
     }
 
     private static void imageOfNothing() {

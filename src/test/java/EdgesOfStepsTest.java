@@ -22,6 +22,7 @@ public final class EdgesOfStepsTest {
         sealedLastsItsScrews();
         carriedLastsItsM();
         backIsCut();
+        undoneTakesItBack();
         backOfHeld();
         never();
         mayBeDoneIfNotDone();
@@ -268,6 +269,20 @@ public final class EdgesOfStepsTest {
             Edge.due(x, 0, "does", 0);
             Edge.due(x, 48 + 1, "undo", 0);
             Edge.due(x, v + back[v - 1], "count", 5);
+        }
+    }
+
+    private static void undoneTakesItBack() {
+        Edge.says("It is UNDONE: MINUTE is more by what it takes BACK");
+        int[] back = {6, 6, 0, 24, 6, 0, 24};
+        for (int kind = 0; kind < 7; kind++) {
+            ScrewLeft x = Edge.with(10 * kind);
+            x.set(0, 2);
+            x.does(0);
+            x.set(0, 1);
+            x.set(2, 99900);
+            Edge.due(x, back[kind] == 0 ? Due.STATE : 49, "undo", 0);
+            Edge.due(x, 99900 + back[kind], "count", 5);
         }
     }
 

@@ -47,6 +47,10 @@ public final class EdgesOfTextsTest {
         Edge.due(x, 24 + 11, "law", 0, 0, 0, 0);
         Due.feed(x, FIFTY.substring(0, 49) + "x");
         Edge.due(x, -10 - 49, "text", 0);
+        // each of these bytes says something of its own
+        Edge.is("the fullest", Due.text(x, 0, "!s" + "+1".repeat(24)), 1);
+        Edge.due(x, 25, "law", 0, 0, 0, 0);
+        Edge.due(x, 24, "law", 0, 1, 0, 0);
     }
 
     private static void gives(int want, String text) {
@@ -417,6 +421,9 @@ public final class EdgesOfTextsTest {
         ScrewLeft x = new ScrewLeft();
         Edge.is("text(0)", Due.text(x, 0, FIFTY), 1);
         Edge.is("text(0), a shorter one", Due.text(x, 0, "5"), 1);
+        Edge.due(x, 5, "law", 0, 0, 0, 0);
+        Edge.is("text(0), of signs", Due.text(x, 0, "!!5"), 1);
+        Edge.is("text(0), without a sign", Due.text(x, 0, "5"), 1);
         Edge.due(x, 5, "law", 0, 0, 0, 0);
         Edge.is("text(1)", Due.text(x, 1, "1"), 1);
         Edge.due(x, 5, "law", 0, 0, 0, 0);

@@ -37,6 +37,7 @@ public final class EdgesOfThoughtTest {
         ordersOfFourAtMost();
         ordersOfMoreThanAreThere();
         ordersFromNowOn();
+        ordersFirstByNumbers();
         ordersNone();
         ordersBeyond();
         oddsInLowestTerms();
@@ -408,6 +409,7 @@ public final class EdgesOfThoughtTest {
         Edge.due(x, 927, "left");
         Edge.does(x, 0, 1, 2, 3, 4, 5, 6, 7);
         Edge.due(x, 927, "left");
+        Edge.says("LEFT OVER (any number).");
         for (int k = 1; k <= 5; k++) {
             Edge.due(x, 0, "told", k);
         }
@@ -571,6 +573,23 @@ public final class EdgesOfThoughtTest {
         x.change(2, 1, 2);
         Edge.due(x, 1, "orders", 3, 0);
         Edge.due(x, 0, "orders", 3, 1);
+    }
+
+    private static void ordersFirstByNumbers() {
+        Edge.says("how many; the first STEP of the first one by numbers.");
+        for (int first = 0; first < 8; first++) {
+            ScrewLeft x = Edge.eight();
+            for (int step = 0; step < first; step++) {
+                x.change(step, 0, 3);
+            }
+            Edge.fill(x, 3, 16, 3);
+            Edge.due(x, 8 - first, "orders", 3, 0);
+            Edge.due(x, first, "orders", 3, 1);
+            x.change(7, 0, 4);
+            Edge.fill(x, 3, 16, 5, 3);
+            Edge.due(x, first == 7 ? 0 : 7 - first, "orders", 3, 0);
+            Edge.due(x, first == 7 ? Due.NONE : 7, "orders", 3, 1);
+        }
     }
 
     private static void ordersNone() {

@@ -15,6 +15,7 @@ public final class ModelTest {
     private final Model model = new Model();
     private final StringBuilder run = new StringBuilder();
     private boolean good = true;
+    private int calls;
 
     private ModelTest(long seed) {
         random = new Random(seed);
@@ -41,7 +42,8 @@ public final class ModelTest {
         if (seed % 4 != 0) {
             begin();
         }
-        for (int i = run.length() > 0 ? 40 : 0; i < 512 && good; i++) {
+        // what is drawn takes ten calls at most, and an object is for 512
+        while (calls < 500 && good) {
             Method act = ACTS[random.nextInt(ACTS.length)];
             if (act.getName().equals("text") && random.nextInt(3) > 0) {
                 feedText();
@@ -222,6 +224,7 @@ public final class ModelTest {
         for (int i = 0; i < args.length; i++) {
             types[i] = args[i] instanceof Long ? long.class : int.class;
         }
+        calls++;
         Object want = Model.class.getDeclaredMethod(name, types).invoke(model, args);
         Object got;
         try {

@@ -70,7 +70,8 @@ final class Probe {
         for (int what = 0; what <= 10; what++) {
             see(x.count(what));
         }
-        for (int step = 0; step <= x.count(0); step++) {
+        int steps = x.count(0);
+        for (int step = 0; step <= steps; step++) {
             for (int what = 0; what <= 9; what++) {
                 see(x.ofStep(step, what));
             }
@@ -82,7 +83,8 @@ final class Probe {
     }
 
     private void trace() {
-        for (int i = 0; i <= x.count(9); i++) {
+        int begun = x.count(9);
+        for (int i = 0; i <= begun; i++) {
             see(x.trace(i));
         }
     }

@@ -17,6 +17,8 @@ public final class RefusedTest {
 
     public static void main(String[] args) {
         theProbeSeesWhatChanges();
+        fullIsFull();
+        inTheOrderInWhichTheyAreAsked();
         steps();
         texts();
         doing();
@@ -32,11 +34,12 @@ public final class RefusedTest {
     /** 8 STEPS, 50 bytes, 20 numbers that wait, at the last MINUTE. */
     private static ScrewLeft full() {
         ScrewLeft x = Probe.rich(8);
-        while (x.count(7) < 50) {
-            x.feed(0x312BL, Math.min(2, 50 - x.count(7)));
+        for (int i = 0; i < 5; i++) {
+            x.feed(0x312B312B312B312BL, 8);
         }
-        while (x.count(8) < 20) {
-            x.tell(47 + x.count(8));
+        x.feed(0x2B312B312BL, 5);
+        for (int i = 2; i < 20; i++) {
+            x.tell(64 + i);
         }
         x.set(2, 99999);
         return x;
@@ -64,6 +67,45 @@ public final class RefusedTest {
         y.restore();
         Edge.due(y, 2, "count", 8);
         Edge.due(y, 0, "check");
+    }
+
+    private static void fullIsFull() {
+        Edge.says("one that answers an ERROR changes nothing but what told() tells.");
+        ScrewLeft x = full();
+        int[] full = {8, 3, 1, 77, 1, 99999, 9, 50, 20};
+        for (int what = 0; what < full.length; what++) {
+            Edge.due(x, full[what], "count", what);
+        }
+    }
+
+    /** Calls that could be refused for several reasons. */
+    private static void inTheOrderInWhichTheyAreAsked() {
+        Edge.says("Each act tells its ERRORS in the order in which they are asked");
+        refused(FULL, Due.BEYOND, "step", -1, 0, 0);
+        refused(FULL, Due.BEYOND, "step", 0, -1, 0);
+        refused(FULL, Due.BEYOND, "step", 0, 0, 256);
+        refused(FIVE, Due.BEYOND, "change", 4, 2, -1);
+        refused(FULL, Due.BEYOND, "feed", 49L, 9);
+        refused(FULL, Due.BEYOND, "loose", 41);
+        refused(Edge::eight, Due.BEYOND, "order", 5);
+        refused(RefusedTest::sixThatCannotBeDone, Due.BEYOND, "order", -2);
+        refused(RefusedTest::sixThatCannotBeDone, Due.STATE, "order", -1);
+        refused(RefusedTest::sixThatCannotBeDone, Due.STATE, "order", 4);
+        refused(FIVE, Due.BEYOND, "goBack", 4, -1);
+        refused(NEW, Due.BEYOND, "whose", 100, 1);
+        refused(NEW, Due.BEYOND, "orders", 0, -1);
+        refused(FIVE, Due.BEYOND, "sheet", 4, 16, -1);
+        refused(FIVE, Due.BEYOND, "sheet", 0, 24, -1);
+        refused(FIVE, Due.BEYOND, "put", 4, 40, 0);
+        refused(FIVE, Due.NONE, "put", 3, 40, 0);
+        refused(FIVE, Due.BEYOND, "move", 3, 0, 4, 0, -1);
+        refused(FIVE, Due.NONE, "move", 3, -1, 2, 0, 41);
+        refused(FIVE, Due.NONE, "move", 2, -1, 3, 0, 41);
+        refused(FIVE, Due.KIND, "move", 2, -1, 1, 0, 41);
+    }
+
+    private static ScrewLeft sixThatCannotBeDone() {
+        return Edge.with(60, 60, 60, 60, 60, 60);
     }
 
     private static void refused(Supplier<ScrewLeft> state, int error, String act, Object... args) {

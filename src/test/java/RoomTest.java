@@ -15,7 +15,7 @@ public final class RoomTest {
         before = made();
         calls(x);
         long bytes = made() - before;
-        Due.holds("512 calls: " + bytes + " bytes", bytes < 20000);
+        Due.holds("480 calls: " + bytes + " bytes", bytes < 20000);
         Due.end();
     }
 
@@ -36,7 +36,7 @@ public final class RoomTest {
     }
 
     private static void calls(ScrewLeft x) {
-        for (int i = 0; i < 64; i++) {
+        for (int i = 0; i < 60; i++) {
             x.orders(0, 0);
             x.whose(0, 0);
             x.all(0);

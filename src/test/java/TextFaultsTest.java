@@ -3,7 +3,8 @@ import java.util.Random;
 /** Promise 9: each TEXT of up to four signs, and longer ones by draws, as the Model finds them. */
 public final class TextFaultsTest {
     private static final String SIGNS = "|<=+*!()1sx";
-    private static final ScrewLeft X = new ScrewLeft();
+    private static ScrewLeft x = new ScrewLeft();
+    private static int texts;
 
     public static void main(String[] args) {
         all("", 4);
@@ -30,7 +31,11 @@ public final class TextFaultsTest {
     }
 
     private static void compare(String text) {
+        // each takes four calls at most, of the 512 that an object is for
+        if (++texts % 100 == 0) {
+            x = new ScrewLeft();
+        }
         int fault = Model.fault(text, "smt");
-        Due.is("FAULT of " + text, Due.text(X, 0, text), fault < 0 ? 1 : -10 - fault);
+        Due.is("FAULT of " + text, Due.text(x, 0, text), fault < 0 ? 1 : -10 - fault);
     }
 }
