@@ -15,7 +15,7 @@ import java.util.TreeSet;
 import java.util.regex.Matcher;
 import java.util.regex.Pattern;
 
-/** LANGUAGE.md's rules 1 to 5, 9, 11 and 12, as far as the compiled classes and the source show them. */
+/** LANGUAGE.md's rules 1 to 5, 9, 11 and 13, as far as the compiled classes and the source show them. */
 public final class LanguageTest {
     /** Rule 4, by owner; what rule 4 lists as "their like" is not wanted so far. */
     private static final Map<String, Set<String>> LIBRARY = Map.of(
